@@ -38,6 +38,8 @@ public final class IntervalRouting {
 
     private static final int NONE = -1;
     private static final int UNREACHABLE = -1;
+    /** No bound and not UNREACHABLE: the vector of a node that has not sent differs from every other one. */
+    private static final int NEVER_SENT = -2;
     private static final int NO_WAY = 1000000;
     private static final int LOOP = -1000;
     private static final int DEAD_END = -2000;
@@ -116,8 +118,8 @@ public final class IntervalRouting {
         if (!live.links.joins(a, b)) {
             return NOT_FOUND;
         }
-        int previous = asNumber(live.links.up[pair(a, b)]);
-        live.links.putUp(a, b, up == 1);
+        int previous = live.links.up[pair(a, b)];
+        live.links.putUp(a, b, up);
         return previous;
     }
 
@@ -137,7 +139,7 @@ public final class IntervalRouting {
             case 2:
                 return live.links.cost[place];
             default:
-                return asNumber(live.links.up[place]);
+                return live.links.up[place];
         }
     }
 
@@ -320,7 +322,7 @@ public final class IntervalRouting {
         ways.measure(live.links, live.nodes);
         int now = ways.countPairs(live.nodes);
         trial.copyFrom(live);
-        trial.links.putUp(a, b, false);
+        trial.links.putUp(a, b, 0);
         ways.measure(trial.links, trial.nodes);
         // A lost link opens no way, so the pairs joined without it are among those joined now.
         return now - ways.countPairs(trial.nodes);
@@ -333,11 +335,11 @@ public final class IntervalRouting {
         if (!live.links.joins(a, b)) {
             return NOT_FOUND;
         }
-        if (!live.links.up[pair(a, b)]) {
+        if (!live.links.isUp(a, b)) {
             return NOT_POSSIBLE;
         }
         trial.copyFrom(live);
-        trial.links.putUp(a, b, false);
+        trial.links.putUp(a, b, 0);
         int first = 1;
         for (int ahead = 1; ahead <= MOST_RECOVERY; ahead++) {
             makeTick(trial);
@@ -466,7 +468,7 @@ public final class IntervalRouting {
 
     private void speak(State state, int sender) {
         for (int neighbour = 0; neighbour < state.nodes; neighbour++) {
-            if (!state.links.up[pair(sender, neighbour)]) {
+            if (!state.links.isUp(sender, neighbour)) {
                 continue;
             }
             for (int target = 0; target < state.nodes; target++) {
@@ -547,7 +549,7 @@ public final class IntervalRouting {
         }
 
         boolean isUsable(int node, int target, int sender, int infinity) {
-            return links.up[pair(node, sender)]
+            return links.isUp(node, sender)
                 && tables.isOpen(slot(node, target, sender), tick, infinity);
         }
 
@@ -572,24 +574,29 @@ public final class IntervalRouting {
         final int[] lower = new int[PAIRS];
         final int[] upper = new int[PAIRS];
         final int[] cost = new int[PAIRS];
-        /** Also false where there is no link: true tells neighbours. */
-        final boolean[] up = new boolean[PAIRS];
+        /** 1 or 0; also 0 where there is no link. */
+        final int[] up = new int[PAIRS];
 
         boolean joins(int a, int b) {
             return lower[pair(a, b)] > 0;
         }
 
+        /** Whether the nodes are neighbours. */
+        boolean isUp(int a, int b) {
+            return up[pair(a, b)] == 1;
+        }
+
         void insert(int a, int b, int least, int most) {
             putBounds(a, b, least, most);
             putCost(a, b, least);
-            putUp(a, b, true);
+            putUp(a, b, 1);
             count++;
         }
 
         void delete(int a, int b) {
             putBounds(a, b, 0, 0);
             putCost(a, b, 0);
-            putUp(a, b, false);
+            putUp(a, b, 0);
             count--;
         }
 
@@ -605,7 +612,7 @@ public final class IntervalRouting {
             cost[pair(b, a)] = value;
         }
 
-        void putUp(int a, int b, boolean value) {
+        void putUp(int a, int b, int value) {
             up[pair(a, b)] = value;
             up[pair(b, a)] = value;
         }
@@ -615,7 +622,7 @@ public final class IntervalRouting {
             Arrays.fill(lower, 0);
             Arrays.fill(upper, 0);
             Arrays.fill(cost, 0);
-            Arrays.fill(up, false);
+            Arrays.fill(up, 0);
         }
 
         void copyFrom(Links other) {
@@ -696,14 +703,10 @@ public final class IntervalRouting {
 
     /** For each node the vector that it had when it sent the latest time. */
     private static final class Vectors {
-        final boolean[] known = new boolean[MOST_NODES];
         final int[] lower = new int[PAIRS];
         final int[] upper = new int[PAIRS];
 
         boolean differs(int node, int nodes, Survey survey) {
-            if (!known[node]) {
-                return true;
-            }
             for (int target = 0; target < nodes; target++) {
                 int place = pair(node, target);
                 if (lower[place] != survey.lower[place] || upper[place] != survey.upper[place]) {
@@ -714,7 +717,6 @@ public final class IntervalRouting {
         }
 
         void keep(int node, int nodes, Survey survey) {
-            known[node] = true;
             for (int target = 0; target < nodes; target++) {
                 int place = pair(node, target);
                 lower[place] = survey.lower[place];
@@ -723,13 +725,11 @@ public final class IntervalRouting {
         }
 
         void clear() {
-            Arrays.fill(known, false);
-            Arrays.fill(lower, 0);
-            Arrays.fill(upper, 0);
+            Arrays.fill(lower, NEVER_SENT);
+            Arrays.fill(upper, NEVER_SENT);
         }
 
         void copyFrom(Vectors other) {
-            System.arraycopy(other.known, 0, known, 0, MOST_NODES);
             System.arraycopy(other.lower, 0, lower, 0, PAIRS);
             System.arraycopy(other.upper, 0, upper, 0, PAIRS);
         }
@@ -807,7 +807,7 @@ public final class IntervalRouting {
         void findNeighbours(State state, int node) {
             near = 0;
             for (int other = 0; other < state.nodes; other++) {
-                if (state.links.up[pair(node, other)]) {
+                if (state.links.isUp(node, other)) {
                     neighbours[near] = other;
                     near++;
                 }
@@ -937,7 +937,7 @@ public final class IntervalRouting {
             for (int a = 0; a < nodes; a++) {
                 for (int b = 0; b < nodes; b++) {
                     int place = pair(a, b);
-                    int direct = links.up[place] ? links.cost[place] : NO_WAY;
+                    int direct = links.isUp(a, b) ? links.cost[place] : NO_WAY;
                     length[place] = a == b ? 0 : direct;
                 }
             }

@@ -5,6 +5,7 @@ public final class ForecastTest {
         settlesAfterAChange();
         neverSettles();
         quietFor40Ticks();
+        settlesAtTheLimit();
         losses();
         wrongArguments();
         recovers();
@@ -71,6 +72,35 @@ public final class ForecastTest {
             Check.due("entry(1, 0, 0, 4)", x.entry(1, 0, 0, 4), 40 + d[0]);
             Check.due("settling() at 40 with a hold of " + d[0], x.settling(), d[1]);
         }
+    }
+
+    private static void settlesAtTheLimit() {
+        // A ring of three counts up for the node that is lost, and its entries are held by turns, until tick 478.
+        IntervalRouting x = new IntervalRouting();
+        x.set(0, 10);
+        x.set(3, 0);
+        x.set(6, 1248);
+        x.addLink(0, 1, 1, 18);
+        x.addLink(0, 2, 22, 22);
+        x.addLink(1, 2, 25, 25);
+        x.addLink(2, 3, 19, 19);
+        x.run(100);
+        x.setUp(2, 3, 0);
+        x.run(177);
+        Check.due("settling() at 277", x.settling(), -4);
+        x.run(1);
+        Check.due("settling() at 278", x.settling(), 200);
+        x.run(1);
+        Check.due("settling() at 279", x.settling(), 199);
+        int last = 0;
+        for (int tick = 280; tick <= 600; tick++) {
+            x.run(1);
+            if (x.journal(0, 0) == tick) {
+                Check.holds("no 40 quiet ticks before " + tick, last == 0 || tick - last <= 40);
+                last = tick;
+            }
+        }
+        Check.due("the tick of the last change", last, 478);
     }
 
     private static void losses() {
@@ -142,6 +172,15 @@ public final class ForecastTest {
         Check.due("recovery(1, 2), infinity 312", slow(312).recovery(1, 2), 60);
         Check.due("recovery(1, 2), infinity 321", slow(321).recovery(1, 2), 60);
         Check.due("recovery(1, 2), infinity 322", slow(322).recovery(1, 2), -4);
+        // From 21 on the same comes a tick earlier, from 23 on three.
+        int[][] due = {{1, 311, 58}, {1, 312, 59}, {3, 321, 57}, {3, 322, 60}, {3, 331, 60}, {3, 332, -4}};
+        for (int[] d : due) {
+            IntervalRouting x = slow(d[1]);
+            x.setUp(1, 2, 0);
+            x.run(d[0]);
+            x.setUp(1, 2, 1);
+            Check.due("recovery(1, 2) at " + x.time() + ", infinity " + d[1], x.recovery(1, 2), d[2]);
+        }
     }
 
     private static void neverRecovers() {

@@ -215,6 +215,9 @@ public final class NetworkTest {
         Check.due("trueDistance(1, 0)", x.trueDistance(1, 0), 6);
         x.setUp(0, 1, 0);
         Check.due("setCost(0, 1, 7) of a link that is down", x.setCost(0, 1, 7), 6);
+        x.addLink(2, 3, 1, 500);
+        Check.due("setCost(2, 3, 500)", x.setCost(2, 3, 500), 1);
+        Check.due("setCost(2, 3, 1)", x.setCost(2, 3, 1), 500);
     }
 
     private static void setUpAnswers() {

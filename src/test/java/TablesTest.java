@@ -12,6 +12,7 @@ public final class TablesTest {
         choiceOfOneEntry();
         dominated();
         onlyUsableOnesDominate();
+        senderNought();
         entriesCounts();
         heldThoughExpired();
         meanWidth();
@@ -116,7 +117,8 @@ public final class TablesTest {
 
     private static void choices(int[] one, int[] two, int[] three, int[] due) {
         IntervalRouting x = fork(one, two, three);
-        for (int rule = 0; rule <= 2; rule++) {
+        for (int i = 2; i < 6; i++) {
+            int rule = i % 3;
             x.set(2, rule);
             Check.due("choice(0, 3) by rule " + rule + " of " + one[0] + "-" + one[1] + ", " + two[0] + "-"
                 + two[1] + ", " + three[0] + "-" + three[1], x.choice(0, 3), due[rule]);
@@ -139,6 +141,8 @@ public final class TablesTest {
         choices(bounds(10, 20), bounds(10, 20), bounds(110, 120), new int[] {1, 1, 1});
         choices(bounds(30, 40), bounds(10, 20), bounds(110, 120), new int[] {2, 2, 2});
         choices(bounds(10, 10), bounds(10, 10), bounds(110, 110), new int[] {1, 1, 1});
+        // Regrets 1 and 0.
+        choices(bounds(10, 10), bounds(9, 10), bounds(120, 140), new int[] {2, 2, 2});
     }
 
     private static void choiceOfOneEntry() {
@@ -192,6 +196,24 @@ public final class TablesTest {
         x.setUp(0, 3, 0);
         Check.due("entry(0, 3, 3, 6), itself not usable", x.entry(0, 3, 3, 6), 0);
         Check.due("entry(0, 3, 2, 6)", x.entry(0, 3, 2, 6), 1);
+    }
+
+    private static void senderNought() {
+        IntervalRouting x = new IntervalRouting();
+        x.reset(3);
+        x.set(0, 1);
+        x.set(3, 0);
+        x.addLink(0, 1, 1, 5);
+        x.addLink(0, 2, 1, 5);
+        x.addLink(1, 2, 20, 30);
+        x.run(4);
+        Check.due("entries(1, 2, 0)", x.entries(1, 2, 0), 2);
+        Check.due("entries(1, 2, 1)", x.entries(1, 2, 1), 2);
+        Check.due("entry(1, 2, 0, 1)", x.entry(1, 2, 0, 1), 10);
+        Check.due("entry(1, 2, 2, 6)", x.entry(1, 2, 2, 6), 1);
+        Check.due("entry(1, 2, 0, 6)", x.entry(1, 2, 0, 6), 0);
+        Check.due("entries(1, 2, 2)", x.entries(1, 2, 2), 1);
+        Check.due("choice(1, 2)", x.choice(1, 2), 0);
     }
 
     private static void entriesCounts() {

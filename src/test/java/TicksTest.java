@@ -298,6 +298,7 @@ public final class TicksTest {
         relink(x, 4, 4);
         x.run(1);
         state(x, 4, 18, 0, 0, 1);
+        x.set(1, 4);
         x.run(3);
         state(x, 4, 18, 0, 0, 1);
         x.setUp(0, 1, 0);
@@ -306,5 +307,20 @@ public final class TicksTest {
         state(x, 4, 18, 0, 0, 0);
         Check.due("entries(0, 1, 0) after the expiry", x.entries(0, 1, 0), 1);
         Check.due("entries(0, 1, 1) after the expiry", x.entries(0, 1, 1), 0);
+        growthEndsWithTheEntry();
+    }
+
+    private static void growthEndsWithTheEntry() {
+        IntervalRouting x = row(2, 1, 1);
+        x.set(1, 1);
+        x.run(1);
+        relink(x, 2, 2);
+        x.run(1);
+        state(x, 2, 3, 1, 0, 1);
+        x.setUp(0, 1, 0);
+        x.run(2);
+        relink(x, 2, 3);
+        x.run(1);
+        state(x, 3, 6, 0, 0, 1);
     }
 }
