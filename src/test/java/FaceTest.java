@@ -72,9 +72,14 @@ public final class FaceTest {
         }
         Check.holds("the constants are the document's", open.equals(new TreeSet<>(
             Arrays.asList("INVALID_ARGUMENT", "NOT_POSSIBLE", "LIMIT_REACHED", "NOT_FOUND"))));
-        Check.due("INVALID_ARGUMENT", IntervalRouting.INVALID_ARGUMENT, -1);
-        Check.due("NOT_POSSIBLE", IntervalRouting.NOT_POSSIBLE, -2);
-        Check.due("LIMIT_REACHED", IntervalRouting.LIMIT_REACHED, -3);
-        Check.due("NOT_FOUND", IntervalRouting.NOT_FOUND, -4);
+        constant("INVALID_ARGUMENT", IntervalRouting.INVALID_ARGUMENT, -1);
+        constant("NOT_POSSIBLE", IntervalRouting.NOT_POSSIBLE, -2);
+        constant("LIMIT_REACHED", IntervalRouting.LIMIT_REACHED, -3);
+        constant("NOT_FOUND", IntervalRouting.NOT_FOUND, -4);
+    }
+
+    private static void constant(String name, int got, int want) {
+        Check.sentence("Errors", "`" + name + " = " + want + "`");
+        Check.due(name, got, want);
     }
 }
